@@ -1,3 +1,5 @@
+import java.math.BigInteger;
+
 /** Promises 11 to 17: what is done, and undone. */
 public final class DoneTest {
     private static final Due DUE = new Due("DoneTest");
@@ -212,6 +214,23 @@ public final class DoneTest {
         DUE.is("drift(1)", x.drift(1), 1);
         DUE.is("the draw", x.seed(5), 2147483648L - 1103515245L + 12345L);
         DUE.is("one name each", Due.parish("0;p91,p01;20-0,1-1").drift(5), 0);
+        // Draws about a multiple of 65536: 12 and 13 stones, 20 and none.
+        for (int times : new int[] {13, 13 + 21 * 1500, 21, 21 * 1560}) {
+            for (int more = -1; more <= 1; more++) {
+                FurrowNames y = windy();
+                y.seed(seedOf(65536 * times + more));
+                y.drift(1);
+                int stones = (more < 0 ? times - 1 : times) % 21;
+                DUE.is("the draw " + times + " times 65536 and " + more, y.named(0, 2), stones > 12 ? 1 : 0);
+                DUE.is("the draw", y.seed(1), 65536 * times + more);
+            }
+        }
+    }
+
+    /** The draw behind which a draw comes. */
+    private static int seedOf(int draw) {
+        BigInteger all = BigInteger.ONE.shiftLeft(31);
+        return BigInteger.valueOf(draw - 12345L).multiply(BigInteger.valueOf(1103515245).modInverse(all)).mod(all).intValue();
     }
 
     private static void undo() {

@@ -12,6 +12,7 @@ public final class ForetoldTest {
         field();
         parting();
         partingOfLikeOnes();
+        partingOfFewer();
         change();
         luck();
         luckOfThree();
@@ -129,6 +130,9 @@ public final class ForetoldTest {
         FurrowNames last = Due.parish("3;p91,p33,p04;10-0,7-0,5-0");
         // Off by 15: 16, 12, 13; by 14: 15, 11, 13; by 20: 21, 13, 15: man 2 is never ahead of man 1.
         DUE.is("the second", last.field(2), 13);
+        // Off 10 + 5 + 20 / 3 and 1 + 20; by 19 stones 21 and 20.
+        DUE.is("20 stones", Due.parish("3;d03,p91;10-0,5-0").field(0), 20);
+        DUE.is("20 stones or nothing", Due.parish("3;d03,p91;10-0").field(0), 20);
         for (int bad : new int[] {-1, -4, 2, 6, LOW, HIGH}) {
             DUE.is("field(" + bad + ")", x.field(bad), BAD);
         }
@@ -183,6 +187,20 @@ public final class ForetoldTest {
         DUE.is("parting(4)", z.parting(4), 4);
     }
 
+    private static void partingOfFewer() {
+        DUE.promise(22, "parting: fewer men, names than ahead of it");
+        FurrowNames x = Due.parish("6;p51,p52,p53,p54,p61,p71;11-0,12-0,13-0,14-0,15-0,16-0");
+        DUE.is("how much", x.parting(NONE), 681);
+        for (int men = 5; men >= 1; men--) {
+            for (int names = 6; names >= 1; names--) {
+                String text = "6;p51,p52,p53,p54,p61".substring(0, 1 + 4 * men) + ";1-0,1-0,1-0,1-0,1-0,1-0".substring(0, 4 * names);
+                Due.read(x, text);
+                DUE.is("how much, of " + men + " and " + names, x.parting(NONE), 101 * Math.min(men, names));
+                DUE.is("the last man's", x.parting(men - 1), men <= names ? men - 1 : NONE);
+            }
+        }
+    }
+
     private static void change() {
         DUE.promise(23, "change");
         FurrowNames x = Due.parish("0;r91,o81;10-5,8-0");
@@ -210,6 +228,15 @@ public final class ForetoldTest {
         for (int k = 0; k < 4; k++) {
             DUE.is("change(" + k + ")", y.change(k), pairs[k]);
         }
+        // Who is called nothing changes with nobody, whatever the names are worth.
+        FurrowNames v = Due.parish("0;p91,p81,p71;0-20,0-9");
+        v.marches(1);
+        DUE.is("called nothing", v.of(2, 4), NONE);
+        DUE.is("nobody would", v.change(-1), 0);
+        FurrowNames u = Due.parish("0;p71,p81,p91;0-20,0-9");
+        u.marches(1);
+        DUE.is("called nothing", u.of(0, 4), NONE);
+        DUE.is("nobody would", u.change(-1), 0);
         // Like values are not more.
         FurrowNames z = Due.parish("0;p91,h91;5-0,5-0,0-0");
         z.marches(1);
@@ -274,6 +301,10 @@ public final class ForetoldTest {
         odds(y, 1, 0, 1, 9);
         y.marches(1);
         odds(y, 1, 0, 2, 3);
+        // The furthest furrows: 10 - 0 + 20 + 5.
+        FurrowNames w = Due.parish("20;d01,d01;9-0,9-0,9-0");
+        odds(w, 0, 0, 2, 3);
+        odds(w, 1, 0, 1, 3);
         // Six alike and one name: the last has it only where the others are more off: (2^5 + 1) / 3^6.
         FurrowNames z = Due.parish("6;p51,p51,p51,p51,p51,p51;9-0");
         odds(z, 5, 0, 11, 243);
@@ -355,6 +386,7 @@ public final class ForetoldTest {
         DUE.is("restore()", x.restore(), 1);
         DUE.is("men", x.count(0), 4);
         DUE.is("nothing to be undone", x.count(8), 0);
+        imageOfAllPasts();
         FurrowNames y = new FurrowNames();
         DUE.is("of nobody", y.image(), 1);
         Due.read(y, "2;d52;1-1");
@@ -365,5 +397,26 @@ public final class ForetoldTest {
             y.man(0, 0, 1);
         }
         DUE.is("the seventh", y.man(0, 0, 1), FULL);
+    }
+
+    private static void imageOfAllPasts() {
+        for (int ahead = 0; ahead < 9; ahead++) {
+            FurrowNames x = Due.parish("0;p91;3-0");
+            for (int i = 0; i < ahead; i++) {
+                x.hire(0, 2);
+            }
+            x.marches(8);
+            x.image();
+            x.undo();
+            for (int i = 0; i < 9; i++) {
+                x.hire(0, 1 + i % 4);
+            }
+            DUE.is("restore()", x.restore(), 1);
+            for (int i = 7; i >= 0; i--) {
+                DUE.is("undo()", x.undo(), i);
+                DUE.is("March", x.count(2), i);
+                DUE.is("oxen", x.of(0, 2), ahead == 0 ? 1 : 2);
+            }
+        }
     }
 }

@@ -245,6 +245,7 @@ public final class MenAndNamesTest {
         x.seed(99);
         x.marches(3);
         x.train(0);
+        DUE.is("foretold, which leaves no trace", x.ahead(0, 60, 0) >= 0 ? 1 : 0, 1);
         DUE.is("a fault leaves all else", Due.read(x, "3;p52;3"), -27);
         DUE.is("men stay", x.count(0), 6);
         DUE.is("the March stays", x.count(2), 3);
@@ -361,6 +362,12 @@ public final class MenAndNamesTest {
         DUE.is("the last debt", x.named(5, 1), 19);
         DUE.is("80 blanks", Due.read(x, " ".repeat(80)), -100);
         DUE.is("cut", Due.read(x, blanks + "  " + text), -100);
+        DUE.is("a digit cut", Due.read(x, blanks + " " + text), 6);
+        DUE.is("the last debt", x.named(5, 1), 1);
+        DUE.is("a longer text", Due.read(x, "1;p52;1-15"), 1);
+        DUE.is("nothing of it comes to a shorter one", Due.read(x, "1;p52;1-1"), 1);
+        DUE.is("debt", x.named(0, 1), 1);
+        DUE.is("nor to one of one letter", Due.read(x, "1"), -21);
     }
 
     private static void count() {
@@ -371,6 +378,12 @@ public final class MenAndNamesTest {
         for (int what = 0; what < 9; what++) {
             DUE.is("count(" + what + ")", x.count(what), first[what]);
         }
+        DUE.is("worths of six", Due.parish("0;p11;1-20,2-10,3-5,4-2,5-1,6-0").count(5), 21);
+        DUE.is("debts of six", Due.parish("0;p11;1-20,2-10,3-5,4-2,5-1,6-0").count(6), 38);
+        FurrowNames fewer = Due.parish("0;p11;1-20,2-10,3-5,4-2,5-1,6-0");
+        Due.read(fewer, "0;p11;1-20,2-10,3-5");
+        DUE.is("worths of three then", fewer.count(5), 6);
+        DUE.is("debts of three then", fewer.count(6), 35);
         x.marches(1);
         x.train(0);
         x.hire(0, 4);
