@@ -13,6 +13,11 @@ final class Due {
         promise = "promise " + number + " (" + what + ")";
     }
 
+    /** A sentence of the document's terms. */
+    void terms(String sentence) {
+        promise = "\"" + sentence + "\"";
+    }
+
     void is(String call, long got, long want) {
         asked++;
         if (got != want) {
