@@ -35,6 +35,10 @@ public final class EdgesTest {
         luckOfSix();
         top();
         ledger();
+        lowestBits();
+        newRow();
+        takenAhead();
+        filmOfTwentyFour();
         eightKnown();
         ninthLost();
         eachDeedUndone();
@@ -659,6 +663,120 @@ public final class EdgesTest {
         DUE.is("none", x.ledger(1, 0, 0, 0, 0), BAD);
         DUE.is("the last eight and one too far", x.ledger(1, 0, 0, 17, 8), INDEX);
         DUE.is("his kind is as it was", x.of(1, 0), 0);
+    }
+
+    /** By the ledger an item is seen as -1, of one who is called nothing, or as 0, of one who has the name. */
+    private static void seen(FurrowNames x, int lane, long v, long as) {
+        DUE.is("item " + v, x.item(lane, lane, 0, v), 1);
+        DUE.is(v + " in lane " + lane + " is 0", x.ledger(0, lane, lane, 0, 1), as == 0 ? 31 : 0);
+        DUE.is(v + " in lane " + lane + " is -1", x.ledger(1, lane, lane, 0, 1), as == -1 ? 31 : 0);
+    }
+
+    private static void lowestBits() {
+        DUE.terms("becomes v, its lowest bits: 0 bytes, 1 shorts, 2 ints, 3 longs");
+        long[] wrap = {1L << 8, 1L << 16, 1L << 32};
+        FurrowNames x = Due.parish("0;p94,p01;9-0");
+        for (int lane = 0; lane < 4; lane++) {
+            x.sheet(lane, lane, 1);
+            seen(x, lane, 0, 0);
+            seen(x, lane, -1, -1);
+            seen(x, lane, 1, 1);
+            seen(x, lane, -2, -2);
+            seen(x, lane, Long.MAX_VALUE, lane == 3 ? 9 : -1);
+            seen(x, lane, Long.MIN_VALUE, lane == 3 ? 9 : 0);
+            seen(x, lane, (1L << 63) - 2, 9);
+            if (lane < 3) {
+                seen(x, lane, wrap[lane], 0);
+                seen(x, lane, wrap[lane] - 1, -1);
+                seen(x, lane, -wrap[lane], 0);
+                seen(x, lane, -wrap[lane] - 1, -1);
+                seen(x, lane, wrap[lane] / 2, 9);
+                seen(x, lane, wrap[lane] / 2 - 1, 9);
+                seen(x, lane, wrap[lane] + 1, 9);
+            }
+        }
+        for (int lane = 0; lane < 4; lane++) {
+            for (int bits = 0; bits < 3; bits++) {
+                seen(x, lane, wrap[bits], lane <= bits ? 0 : 9);
+                seen(x, lane, wrap[bits] - 1, lane <= bits ? -1 : 9);
+            }
+        }
+    }
+
+    private static void newRow() {
+        DUE.terms("A SHEET holds a new row");
+        FurrowNames x = Due.parish("0;p94,p01;9-0");
+        for (int round = 0; round < 2; round++) {
+            DUE.is("a row", x.sheet(2, 2, 24), 24);
+            // But for a drinker, who comes behind the other's growing hand in March 6.
+            for (int i = 0; i < 24; i += 8) {
+                DUE.is("of noughts", x.ledger(0, 2, 2, i, 8), 15);
+            }
+            DUE.is("film", x.film(1, 24, 2, 2, 0), 24);
+            DUE.is("no noughts", x.ledger(0, 2, 2, 23, 1), 0);
+        }
+        DUE.is("a shorter row", x.sheet(2, 2, 1), 1);
+        DUE.is("a longer row", x.sheet(2, 2, 24), 24);
+        DUE.is("of noughts", x.ledger(0, 2, 2, 16, 8), 15);
+        x.film(1, 24, 2, 2, 0);
+        x.drop(2);
+        x.sheet(2, 2, 24);
+        DUE.is("behind nothing, too", x.ledger(0, 2, 2, 16, 8), 15);
+        DUE.is("other sheets are missing still", x.drop(0) + x.drop(1) + x.drop(3), 3 * NULL);
+    }
+
+    /** A row 0 1 2 .. of six and again, of heirs who have the name of their own number. */
+    private static FurrowNames counted(int lane) {
+        FurrowNames x = Due.parish(Twins.HEIRS);
+        x.sheet(lane, lane, 24);
+        for (int i = 0; i < 24; i++) {
+            x.item(lane, lane, i, i % 6);
+        }
+        return x;
+    }
+
+    private static void takenAhead() {
+        DUE.terms("come to another one (or the same) .. as if all were taken ahead");
+        int[][] moves = {{0, 1, 23}, {1, 0, 23}, {0, 23, 1}, {23, 0, 1}, {0, 0, 24}, {2, 5, 19}, {5, 2, 19}, {24, 24, 0}, {7, 9, 4}};
+        for (int lane = 0; lane < 4; lane++) {
+            for (int[] m : moves) {
+                FurrowNames x = counted(lane);
+                DUE.is("copy", x.copy(lane, m[0], lane, m[1], m[2]), m[2]);
+                for (int i = 0; i < 24; i++) {
+                    boolean moved = i >= m[1] && i < m[1] + m[2];
+                    int due = (moved ? i - m[1] + m[0] : i) % 6;
+                    DUE.is(m[2] + " from " + m[0] + " to " + m[1] + ", item " + i, x.ledger(due, lane, lane, i, 1) & 8, 8);
+                }
+            }
+        }
+        FurrowNames y = counted(1);
+        y.sheet(0, 1, 3);
+        DUE.is("the last three to another", y.copy(1, 21, 0, 0, 3), 3);
+        for (int i = 0; i < 3; i++) {
+            DUE.is("item " + i, y.ledger(3 + i, 0, 1, i, 1) & 8, 8);
+            DUE.is("it stays where it was", y.ledger(3 + i, 1, 1, 21 + i, 1) & 8, 8);
+        }
+    }
+
+    private static void filmOfTwentyFour() {
+        DUE.terms("film: the next n MARCHES (1 .. 24; -1: nothing), an item each");
+        // In March 0 the drinker is 6 off, the other 5: he is called nothing; by any other kind he would have the name.
+        for (int lane = 0; lane < 4; lane++) {
+            FurrowNames x = Due.parish("0;d91,p51;9-0");
+            x.sheet(2, lane, 24);
+            x.sheet(0, lane, 1);
+            DUE.is("film of 24", x.film(0, 24, 2, lane, 0), 24);
+            DUE.is("film of 25", x.film(0, 25, 2, lane, 0), BAD);
+            DUE.is("film of 0", x.film(0, 0, 2, lane, 0), BAD);
+            DUE.is("the drinker's kind alone", x.ledger(0, 2, lane, 0, 8), 16);
+            for (int n = 1; n <= 24; n++) {
+                x.copy(2, n - 1, 0, 0, 1);
+                DUE.is("item " + n, x.ledger(0, 0, lane, 0, 1), x.ahead(0, n, 0) == NONE ? 16 : 15);
+            }
+            DUE.is("film of 1 to the last", x.film(1, 1, 2, lane, 23), 1);
+            x.copy(2, 23, 0, 0, 1);
+            DUE.is("the other has the name in March 0", x.ledger(0, 0, lane, 0, 1), 15);
+        }
     }
 
     // ---- undone

@@ -9,8 +9,9 @@ import java.util.TreeMap;
 public final class RandomRunsTest {
     private static final int RUNS = 700;
     private static final int CALLS = 512;
-    private static final int[] EDGES = {-1, -2, -3, -4, -5, 0, 1, 4, 5, 6, 7, 8, 9, 10, 20, 21, 24, 25, 40, 41, 60, 61,
-        Integer.MIN_VALUE, Integer.MAX_VALUE};
+    private static final int[] EDGES = {-1, -2, -3, -4, -5, 0, 1, 2, 3, 4, 5, 6, 7, 8, 9, 10, 20, 21, 23, 24, 25, 31, 32, 39, 40, 41,
+        59, 60, 61, 126, 127, 255, 256, 65535, 65536, Integer.MIN_VALUE, Integer.MIN_VALUE + 1, Integer.MAX_VALUE - 1,
+        Integer.MAX_VALUE};
 
     /** The calls, how often each comes, and what its arguments are: see argument(). */
     private static final String[] PLAN = {
@@ -24,10 +25,13 @@ public final class RandomRunsTest {
     private final Model model = new Model();
     private final List<String> told = new ArrayList<>();
     private final Map<String, Integer> answers;
+    /** One argument of so many is an edge; in some runs nearly each call has one. */
+    private final int edgeEvery;
     private int made = 0;
 
-    private RandomRunsTest(long seed, Map<String, Integer> answers) {
-        chance = new Random(seed);
+    private RandomRunsTest(int run, Map<String, Integer> answers) {
+        chance = new Random(run);
+        edgeEvery = run % 5 == 4 ? 4 : 50;
         this.answers = answers;
     }
 
@@ -46,7 +50,20 @@ public final class RandomRunsTest {
         System.out.println("RandomRunsTest: " + runs + " runs of " + CALLS + " calls, all as the model has it");
     }
 
+    /** So many Marches that the last one is near. */
+    private boolean growsLate() throws ReflectiveOperationException {
+        boolean same = readText();
+        for (int i = 0; i < 245 && same; i++) {
+            same = same("marches", 40);
+        }
+        return same;
+    }
+
     private boolean holds(int run) throws ReflectiveOperationException {
+        if (run % 50 == 7 && !growsLate()) {
+            told.forEach(System.out::println);
+            return false;
+        }
         while (made < CALLS) {
             boolean same = chance.nextInt(made < 40 ? 12 : 120) == 0 ? readText() : call(PLAN[byWeight()]);
             if (!same) {
@@ -158,7 +175,7 @@ public final class RandomRunsTest {
     }
 
     private int argument(char letter) {
-        if (chance.nextInt(50) == 0) {
+        if (chance.nextInt(edgeEvery) == 0) {
             return EDGES[chance.nextInt(EDGES.length)];
         }
         switch (letter) {
