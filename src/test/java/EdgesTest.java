@@ -538,6 +538,12 @@ public final class EdgesTest {
         DUE.is("the first", v.parting(0), 1);
         DUE.is("the second", v.parting(1), 0);
         DUE.is("man 2", v.parting(2), BAD);
+        // A name of the parish ahead of it is nobody's, though 18 of it would make as much.
+        FurrowNames u = Due.parish("6;p51;1-1,18-0");
+        DUE.is("another parish", Due.read(u, "6;p51,r51;10-2"), 2);
+        DUE.is("together", u.parting(NONE), 118);
+        DUE.is("the first has none", u.parting(0), NONE);
+        DUE.is("the second has it", u.parting(1), 0);
     }
 
     private static void change() {
