@@ -11,6 +11,7 @@ import java.util.Set;
 /** All calls of a run live in one room: what a new object takes of it, and that no call takes more. */
 public final class RoomTest {
     private static final Due DUE = new Due("RoomTest");
+    private static final int ROUNDS = 200;
     private static final com.sun.management.ThreadMXBean THREADS =
         (com.sun.management.ThreadMXBean) ManagementFactory.getThreadMXBean();
 
@@ -61,16 +62,17 @@ public final class RoomTest {
     }
 
     private static void calls() {
-        String text = "9;p52,r43,o71,h34,d94,p52;12-4,18-15,5-0,20-9,9-9,1-1";
+        String text = "9;p52,r43,o71,h34,d94;12-4,18-15,5-0,20-9,9-9";
         FurrowNames x = Due.parish(text);
         every(x, text);
         long before = THREADS.getThreadAllocatedBytes(Thread.currentThread().getId());
-        for (int i = 0; i < 200; i++) {
+        for (int i = 0; i < ROUNDS; i++) {
             every(x, text);
         }
         long taken = THREADS.getThreadAllocatedBytes(Thread.currentThread().getId()) - before;
-        System.out.println("200 times all calls: " + taken + " bytes");
-        DUE.is("no call makes an object", taken < 20000 ? 1 : 0, 1);
+        System.out.println(ROUNDS + " times all calls: " + taken + " bytes");
+        // The smallest object takes 16 bytes; one in each round would be seen.
+        DUE.is("no call makes an object", taken < ROUNDS * 16 ? 1 : 0, 1);
     }
 
     private static void every(FurrowNames x, String text) {
@@ -80,6 +82,11 @@ public final class RoomTest {
         x.parish();
         x.type(50);
         x.parish();
+        // The text leaves room for one more of each; the second of each is refused.
+        for (int i = 0; i < 2; i++) {
+            x.man(0, 1, 1);
+            x.name(1, 1);
+        }
         x.marches(9);
         x.drift(9);
         x.train(0);
@@ -97,7 +104,9 @@ public final class RoomTest {
         x.values(1, 1);
         x.ahead(0, 60, 1);
         x.nameAhead(0, 60, 1);
-        x.needs(0, 3);
+        for (int i = 0; i < 36; i++) {
+            x.needs(i / 6, i % 6);
+        }
         x.field(0);
         x.parting(5);
         x.change(-1);
@@ -110,7 +119,5 @@ public final class RoomTest {
         x.item(0, 2, 3, 1L);
         x.copy(0, 0, 1, 1, 9);
         x.drop(1);
-        x.man(0, 1, 1);
-        x.name(1, 1);
     }
 }
